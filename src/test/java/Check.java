@@ -1,0 +1,47 @@
+import java.util.concurrent.Callable;
+
+/** Counts the answers that are not as due, and ends a test with exit code 1 if there were any. */
+final class Check {
+    private int wrong = 0;
+
+    /** Takes 0.0 and -0.0 for the same, as the document does not tell them apart. */
+    void same(String call, double got, double due) {
+        if (got != due) {
+            tell(call + " answered " + got + ", due is " + due);
+        }
+    }
+
+    void that(String what, boolean holds) {
+        if (!holds) {
+            tell(what + " does not hold");
+        }
+    }
+
+    void refuses(String call, Class<? extends RuntimeException> due, Callable<?> run) {
+        String got = outcome(run);
+        if (!got.equals("throws." + due.getSimpleName())) {
+            tell(call + " gave " + got + ", due is throws." + due.getSimpleName());
+        }
+    }
+
+    /** The answer as a text, or throws. and the name of the exception. */
+    static String outcome(Callable<?> run) {
+        try {
+            return String.valueOf(run.call());
+        } catch (Exception e) {
+            return "throws." + e.getClass().getSimpleName();
+        }
+    }
+
+    void tell(String text) {
+        wrong++;
+        System.out.println(text);
+    }
+
+    void end() {
+        System.out.println(wrong == 0 ? "all answers are as due" : wrong + " answers are not as due");
+        if (wrong != 0) {
+            System.exit(1);
+        }
+    }
+}
