@@ -9,6 +9,7 @@ public final class CoreTest {
         removesAll();
         keepsAllWithNumberZero();
         combinesBySums();
+        removesOnlyWhereItIsDue();
         check.end();
     }
 
@@ -78,5 +79,16 @@ public final class CoreTest {
         check.same("value(0): not below", x.value(0), 4.0);
         check.same("count(2)", x.count(2), 1);
         check.same("aggregate()", x.aggregate(), 4.0);
+    }
+
+    private static void removesOnlyWhereItIsDue() {
+        PulseGraph x = Graphs.ring();
+        x.start(3, 2, false);
+        x.step(2);
+        x.vertex(0, 4.0);
+        x.start(2, 0, false);
+        check.same("step(10): a vertex made anew stays", x.step(10), 1);
+        check.same("count(2)", x.count(2), 1);
+        check.same("value(0)", x.value(0), 4.0);
     }
 }
