@@ -3,6 +3,13 @@ import java.util.concurrent.Callable;
 /** Counts the answers that are not as due, and ends a test with exit code 1 if there were any. */
 final class Check {
     private int wrong = 0;
+    private String about = "";
+
+    /** What is told from here on is about this. */
+    void begin(String newAbout) {
+        about = newAbout;
+        System.out.println(about);
+    }
 
     /** Takes 0.0 and -0.0 for the same, as the document does not tell them apart. */
     void same(String call, double got, double due) {
@@ -17,7 +24,18 @@ final class Check {
         }
     }
 
-    void refuses(String call, Class<? extends RuntimeException> due, Callable<?> run) {
+    /** The call throws, and nothing that can be seen of the graph changes by it. */
+    void refuses(PulseGraph x, String call, Class<? extends RuntimeException> due, Callable<?> run) {
+        String before = Graphs.seen(x);
+        fails(call, due, run);
+        String after = Graphs.seen(x);
+        if (!after.equals(before)) {
+            tell(call + " changed\n" + before + "\ninto\n" + after);
+        }
+    }
+
+    /** The call throws, whatever it changes. */
+    void fails(String call, Class<? extends RuntimeException> due, Callable<?> run) {
         String got = outcome(run);
         if (!got.equals("throws." + due.getSimpleName())) {
             tell(call + " gave " + got + ", due is throws." + due.getSimpleName());
@@ -35,7 +53,7 @@ final class Check {
 
     void tell(String text) {
         wrong++;
-        System.out.println(text);
+        System.out.println((about.isEmpty() ? "" : "WRONG in " + about + ": ") + text);
     }
 
     void end() {

@@ -1,4 +1,4 @@
-/** Graphs that several tests begin with, and all that can be seen of one. */
+/** Graphs that several tests begin with, all that can be seen of one, and numbers out of range. */
 final class Graphs {
     private Graphs() {
     }
@@ -10,6 +10,11 @@ final class Graphs {
             x.vertex(v, 0.0);
         }
         return x;
+    }
+
+    /** All twelve vertices, with the value 0.0. */
+    static PulseGraph full() {
+        return of(0, 1, 2, 3, 4, 5, 6, 7, 8, 9, 10, 11);
     }
 
     /** Adds edges of the length 1.0, written as from, to, from, to .. */
@@ -25,7 +30,22 @@ final class Graphs {
         return link(of(0, 1, 2), 0, 1, 1, 2, 2, 0);
     }
 
-    /** A path 0, 1, 2 whose second edge makes NEAREST from 0 fail in superstep 1. */
+    /** A ring on which RANK has done one step of ten. */
+    static PulseGraph running() {
+        PulseGraph x = ring();
+        x.start(0, 9, false);
+        x.step(1);
+        return x;
+    }
+
+    /** The same, broken as worker 1 was lost. */
+    static PulseGraph lost() {
+        PulseGraph x = running();
+        x.lose(1);
+        return x;
+    }
+
+    /** A path 0, 1, 2 on which NEAREST from 0 was started, and fails in superstep 1. */
     static PulseGraph failing() {
         PulseGraph x = of(0, 1, 2);
         x.edge(0, 1, 1000.0);
@@ -34,7 +54,27 @@ final class Graphs {
         return x;
     }
 
-    /** Every answer of the calls that change nothing, lengths excepted, which no call tells. */
+    /** The same, broken as its step failed. */
+    static PulseGraph failed() {
+        PulseGraph x = failing();
+        Check.outcome(() -> x.step(10));
+        return x;
+    }
+
+    /** Just outside of what is in range, and as far outside as can be. */
+    static int[] outside(int least, int most) {
+        return new int[] {least - 1, most + 1, Integer.MIN_VALUE, Integer.MAX_VALUE};
+    }
+
+    static double[] outside(double least, double most) {
+        return new double[] {Math.nextDown(least), Math.nextUp(most), -Double.MAX_VALUE, Double.MAX_VALUE,
+            Double.NEGATIVE_INFINITY, Double.POSITIVE_INFINITY, Double.NaN};
+    }
+
+    /**
+     * What the calls that change nothing answer, lengths excepted, which no call tells. It asks no
+     * more than it must, as an object has only 512 calls.
+     */
     static String seen(PulseGraph x) {
         StringBuilder text = new StringBuilder();
         for (int what = 0; what < 5; what++) {
@@ -43,16 +83,25 @@ final class Graphs {
         text.append(x.aggregate());
         for (int vertex = 0; vertex < 12; vertex++) {
             int v = vertex;
-            text.append("\n").append(v).append(": ").append(Check.outcome(() -> x.value(v)));
-            for (int entry = 0; entry < 15; entry++) {
-                int what = entry;
-                text.append(' ').append(Check.outcome(() -> x.about(v, what)));
-            }
-            for (int place = -1; place < 13; place++) {
-                int i = place;
-                text.append(' ').append(Check.outcome(() -> x.message(v, i)));
+            String value = Check.outcome(() -> x.value(v));
+            if (!value.startsWith("throws.")) {
+                text.append("\n").append(v).append(": ").append(value).append(seenOf(x, v));
             }
         }
         return text.toString();
+    }
+
+    private static String seenOf(PulseGraph x, int vertex) {
+        StringBuilder text = new StringBuilder(", edges");
+        int edges = x.about(vertex, 0);
+        for (int i = 0; i < edges; i++) {
+            text.append(' ').append(x.about(vertex, 3 + i));
+        }
+        text.append(", messages");
+        int messages = x.about(vertex, 1);
+        for (int i = 0; i < messages; i++) {
+            text.append(' ').append(x.message(vertex, i));
+        }
+        return text.append(", awake ").append(x.about(vertex, 2)).toString();
     }
 }

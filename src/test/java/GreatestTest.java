@@ -1,79 +1,116 @@
-/** Promise 6 with program 2. */
+@Part("Terms: 2 GREATEST")
 public final class GreatestTest {
-    private static final Check check = new Check();
-
-    public static void main(String[] args) {
-        spreadsTheGreatest();
-        keepsNegativeValues();
-        combinesByWorkers();
-        ordersBySending();
-        check.end();
+    public static void main(String[] args) throws Exception {
+        Sentences.run(GreatestTest.class);
     }
 
-    private static void spreadsTheGreatest() {
+    /** A ring with the values 5.0, 9.0 and 7.0. */
+    private static PulseGraph ring() {
         PulseGraph x = Graphs.ring();
         x.vertex(0, 5.0);
         x.vertex(1, 9.0);
         x.vertex(2, 7.0);
-        x.start(2, 30, false);
-        x.step(1);
-        check.same("count(4): all send in superstep 0", x.count(4), 3);
-        check.same("message(2, 0)", x.message(2, 0), 9.0);
-        check.same("aggregate()", x.aggregate(), 9.0);
-        x.step(1);
-        check.same("value(0)", x.value(0), 7.0);
-        check.same("value(1)", x.value(1), 9.0);
-        check.same("about(2, 1): 1 was not raised and is silent", x.about(2, 1), 0);
-        check.same("about(1, 1)", x.about(1, 1), 1);
-        x.step(1);
-        check.same("value(0)", x.value(0), 9.0);
-        check.same("step(10)", x.step(10), 1);
-        check.same("aggregate(): offered without a rise", x.aggregate(), 9.0);
+        return x;
     }
 
-    private static void keepsNegativeValues() {
-        PulseGraph x = Graphs.of(3, 4);
-        x.vertex(3, -5.0);
-        x.vertex(4, -7.0);
-        x.edge(3, 4, 0.0);
+    @Sentence("the greatest of m and its VALUE becomes its VALUE;")
+    static void spreadsAlongEdges(Check check) {
+        PulseGraph x = ring();
+        x.start(2, 30, false);
+        x.step(2);
+        check.same("value(0): 7.0 of 2", x.value(0), 7.0);
+        check.same("value(1): its own", x.value(1), 9.0);
+        check.same("value(2): 9.0 of 1", x.value(2), 9.0);
+        check.same("step(10)", x.step(10), 2);
+        check.same("value(0)", x.value(0), 9.0);
+    }
+
+    @Sentence("the greatest of m and its VALUE becomes its VALUE;")
+    static void takesTheGreatestWhereverItStands(Check check) {
+        for (int best = 1; best < 4; best++) {
+            PulseGraph x = Graphs.link(Graphs.of(0, 1, 2, 3), 1, 0, 2, 0, 3, 0);
+            x.vertex(0, -90.0);
+            for (int v = 1; v < 4; v++) {
+                x.vertex(v, v == best ? -1.0 : -50.0 - v);
+            }
+            x.start(2, 0, false);
+            x.step(2);
+            check.same("value(0)", x.value(0), -1.0);
+        }
+    }
+
+    @Sentence("the greatest of m and its VALUE becomes its VALUE;")
+    static void keepsItsOwnWithoutMessages(Check check) {
+        PulseGraph x = Graphs.of(3);
+        x.vertex(3, -100000.0);
+        x.start(2, 0, false);
+        check.same("step(10)", x.step(10), 1);
+        check.same("value(3)", x.value(3), -100000.0);
+    }
+
+    @Sentence("if that is more than before, or in SUPERSTEP 0, it SENDS it.")
+    static void sendsInSuperstepZero(Check check) {
+        PulseGraph x = ring();
         x.start(2, 0, false);
         x.step(1);
-        check.same("aggregate()", x.aggregate(), -5.0);
+        check.same("count(4)", x.count(4), 3);
+        check.same("message(1, 0)", x.message(1, 0), 5.0);
+        check.same("message(2, 0)", x.message(2, 0), 9.0);
+        check.same("message(0, 0)", x.message(0, 0), 7.0);
+    }
+
+    @Sentence("if that is more than before, or in SUPERSTEP 0, it SENDS it.")
+    static void sendsLaterOnlyWhatIsMore(Check check) {
+        PulseGraph x = ring();
+        x.start(2, 0, false);
+        x.step(2);
+        check.same("about(2, 1): 1 was not raised", x.about(2, 1), 0);
+        check.same("message(1, 0): of 0, raised", x.message(1, 0), 7.0);
+        check.same("message(0, 0): of 2, raised", x.message(0, 0), 9.0);
+    }
+
+    @Sentence("if that is more than before, or in SUPERSTEP 0, it SENDS it.")
+    static void sendsNothingIfItIsTheSame(Check check) {
+        PulseGraph x = Graphs.ring();
+        x.start(2, 0, false);
+        check.same("step(10)", x.step(10), 2);
+        check.same("count(0)", x.count(0), PulseGraph.IDLE);
+        check.same("value(1)", x.value(1), 0.0);
+    }
+
+    @Sentence("It offers it.")
+    static void offersWithoutARise(Check check) {
+        PulseGraph x = ring();
+        x.start(2, 0, false);
         x.step(1);
-        check.same("value(4)", x.value(4), -5.0);
+        check.same("aggregate()", x.aggregate(), 9.0);
+        x.step(3);
+        check.same("aggregate(): 1 offered without a rise", x.aggregate(), 9.0);
         check.same("count(0)", x.count(0), PulseGraph.IDLE);
     }
 
-    private static void combinesByWorkers() {
-        PulseGraph x = Graphs.link(Graphs.of(0, 1, 4, 6), 0, 0, 1, 0, 4, 0, 6, 0);
-        x.vertex(0, -1.0);
-        x.vertex(1, -4.0);
-        x.vertex(4, -3.0);
-        x.vertex(6, -2.0);
-        x.start(2, 0, true);
-        x.step(1);
-        check.same("about(0, 1)", x.about(0, 1), 2);
-        check.same("message(0, 0): the greatest of worker 0", x.message(0, 0), -1.0);
-        check.same("message(0, 1): the greatest of worker 1", x.message(0, 1), -3.0);
-    }
-
-    private static void ordersBySending() {
-        PulseGraph x = Graphs.link(Graphs.of(1, 2, 3, 6), 6, 3, 3, 3, 2, 3, 1, 3);
-        x.vertex(1, 10.0);
-        x.vertex(2, 20.0);
-        x.vertex(3, 30.0);
-        x.vertex(6, 60.0);
+    @Sentence("It offers it.")
+    static void offersOnlyIfItComputes(Check check) {
+        PulseGraph x = Graphs.link(Graphs.of(0, 1, 2), 0, 1);
+        x.vertex(0, 3.0);
+        x.vertex(2, 8.0);
         x.start(2, 0, false);
         x.step(1);
-        for (int i = 0; i < 3; i++) {
-            check.same("message(3, " + i + ")", x.message(3, i), 10.0 * (i + 1));
-        }
-        check.same("message(3, 3)", x.message(3, 3), 60.0);
-        x.stop();
-        x.start(2, 0, true);
+        check.same("aggregate() of all", x.aggregate(), 8.0);
         x.step(1);
-        check.same("message(3, 0): of worker 0", x.message(3, 0), 60.0);
-        check.same("message(3, 1): of worker 1", x.message(3, 1), 10.0);
-        check.same("message(3, 2): of worker 2", x.message(3, 2), 20.0);
+        check.same("aggregate() of 1 alone", x.aggregate(), 3.0);
+    }
+
+    @Sentence("It SLEEPS.")
+    static void sleepsAtOnce(Check check) {
+        PulseGraph x = ring();
+        x.start(2, 0, false);
+        for (int step = 0; step < 3; step++) {
+            x.step(1);
+            check.same("count(0)", x.count(0), PulseGraph.RUNNING);
+            for (int v = 0; v < 3; v++) {
+                check.same("about(" + v + ", 2)", x.about(v, 2), 0);
+            }
+        }
     }
 }

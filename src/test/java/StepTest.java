@@ -1,78 +1,126 @@
-/** Promise 6: the call itself; the four programs have tests of their own. */
+@Part("Promise 6: step")
 public final class StepTest {
-    private static final Check check = new Check();
-
-    public static void main(String[] args) {
-        countsSteps();
-        endsWhenAllIsQuiet();
-        wakesByMessages();
-        failsAndLeavesNothingOfTheStep();
-        refusesWhatIsWrong();
-        check.end();
+    public static void main(String[] args) throws Exception {
+        Sentences.run(StepTest.class);
     }
 
-    private static void countsSteps() {
+    @Sentence("n 1 .. 10.")
+    static void takesTheLeastAndTheGreatest(Check check) {
         PulseGraph x = Graphs.ring();
         x.start(0, 30, false);
         check.same("step(1)", x.step(1), 1);
+        check.same("count(1)", x.count(1), 1);
         check.same("step(10)", x.step(10), 10);
         check.same("count(1)", x.count(1), 11);
-        check.same("step(10)", x.step(10), 10);
-        check.same("step(10): only to the end", x.step(10), 10);
-        check.same("count(0) as steps ended with the last", x.count(0), PulseGraph.IDLE);
-        check.same("count(1)", x.count(1), 31);
     }
 
-    private static void endsWhenAllIsQuiet() {
+    @Sentence("n 1 .. 10.")
+    static void refusesWhatIsOutOfRange(Check check) {
+        PulseGraph x = Graphs.running();
+        PulseGraph idle = Graphs.ring();
+        PulseGraph broken = Graphs.lost();
+        for (int n : Graphs.outside(1, 10)) {
+            check.refuses(x, "step(" + n + ")", IllegalArgumentException.class, () -> x.step(n));
+            check.refuses(idle, "step(" + n + ") idle", IllegalArgumentException.class, () -> idle.step(n));
+            check.refuses(broken, "step(" + n + ") broken", IllegalArgumentException.class, () -> broken.step(n));
+        }
+    }
+
+    @Sentence("It is not RUNNING: IllegalStateException.")
+    static void refusesWhileIdle(Check check) {
+        PulseGraph x = Graphs.ring();
+        check.refuses(x, "step(1) before", IllegalStateException.class, () -> x.step(1));
+        x.start(0, 0, false);
+        x.step(1);
+        check.refuses(x, "step(1) at the end", IllegalStateException.class, () -> x.step(1));
+        x.start(0, 5, false);
+        x.stop();
+        check.refuses(x, "step(10) stopped", IllegalStateException.class, () -> x.step(10));
+    }
+
+    @Sentence("It is not RUNNING: IllegalStateException.")
+    static void refusesWhileBroken(Check check) {
+        PulseGraph x = Graphs.lost();
+        check.refuses(x, "step(1) lost", IllegalStateException.class, () -> x.step(1));
+        PulseGraph y = Graphs.failed();
+        check.refuses(y, "step(1) failed", IllegalStateException.class, () -> y.step(1));
+        check.refuses(y, "step(1) failed, again", IllegalStateException.class, () -> y.step(1));
+    }
+
+    @Sentence("Up to n STEPS, as long as it is RUNNING.")
+    static void endsWhenItIsIdle(Check check) {
         PulseGraph x = Graphs.ring();
         x.start(0, 3, false);
         check.same("step(10)", x.step(10), 4);
         check.same("count(0)", x.count(0), PulseGraph.IDLE);
-        check.same("about(0, 2)", x.about(0, 2), 0);
-        check.refuses("step(1) idle", IllegalStateException.class, () -> x.step(1));
+        check.same("count(1)", x.count(1), 4);
     }
 
-    private static void wakesByMessages() {
-        PulseGraph x = Graphs.link(Graphs.of(0, 1, 2), 0, 1, 1, 2);
-        x.start(1, 0, false);
-        x.step(1);
-        check.same("about(0, 2): asleep", x.about(0, 2), 0);
-        check.same("about(1, 2): asleep with a message", x.about(1, 2), 0);
-        check.same("about(1, 1)", x.about(1, 1), 1);
-        check.same("count(0): a message keeps it running", x.count(0), PulseGraph.RUNNING);
-        x.step(1);
-        check.same("value(1): a message woke it", x.value(1), 1.0);
-        check.same("about(1, 1): those had before are gone", x.about(1, 1), 0);
-        check.same("value(2): a message is had only later", x.value(2), 1000000.0);
-        x.step(1);
-        check.same("value(2)", x.value(2), 2.0);
-    }
-
-    private static void failsAndLeavesNothingOfTheStep() {
-        PulseGraph x = Graphs.failing();
-        check.refuses("step(10)", UnsupportedOperationException.class, () -> x.step(10));
-        check.same("count(0)", x.count(0), PulseGraph.BROKEN);
-        check.same("count(1): the step before stays done", x.count(1), 1);
-        check.same("value(0)", x.value(0), 0.0);
-        check.same("value(1): as before the step", x.value(1), 1000000.0);
-        check.same("message(1, 0): as before the step", x.message(1, 0), 1000.0);
-        check.same("about(2, 1): nothing was sent", x.about(2, 1), 0);
-        check.same("about(1, 2): asleep as before", x.about(1, 2), 0);
-        check.same("aggregate(): as before the step", x.aggregate(), 0.0);
-        check.refuses("step(1) broken", IllegalStateException.class, () -> x.step(1));
-    }
-
-    private static void refusesWhatIsWrong() {
+    @Sentence("Up to n STEPS, as long as it is RUNNING.")
+    static void endsAfterNSteps(Check check) {
         PulseGraph x = Graphs.ring();
-        check.refuses("step(1) idle", IllegalStateException.class, () -> x.step(1));
-        int[] numbers = {0, 11, -1, Integer.MAX_VALUE};
-        for (int n : numbers) {
-            check.refuses("step(" + n + ") idle", IllegalArgumentException.class, () -> x.step(n));
+        x.start(0, 3, false);
+        check.same("step(3)", x.step(3), 3);
+        check.same("count(0)", x.count(0), PulseGraph.RUNNING);
+        check.same("step(1)", x.step(1), 1);
+        check.same("count(0)", x.count(0), PulseGraph.IDLE);
+    }
+
+    @Sentence("Up to n STEPS, as long as it is RUNNING.")
+    static void areTheSameOneByOne(Check check) {
+        PulseGraph x = Graphs.link(Graphs.of(0, 1, 2, 3), 0, 1, 0, 2, 1, 2, 2, 0, 3, 2);
+        PulseGraph y = Graphs.link(Graphs.of(0, 1, 2, 3), 0, 1, 0, 2, 1, 2, 2, 0, 3, 2);
+        x.start(0, 9, true);
+        y.start(0, 9, true);
+        x.step(7);
+        for (int i = 0; i < 7; i++) {
+            y.step(1);
         }
-        x.start(0, 5, false);
-        for (int n : numbers) {
-            check.refuses("step(" + n + ") running", IllegalArgumentException.class, () -> x.step(n));
+        check.that("seven at once are as seven one by one", Graphs.seen(x).equals(Graphs.seen(y)));
+    }
+
+    @Sentence("One FAILS: UnsupportedOperationException (those before it stay done).")
+    static void failsInALaterStep(Check check) {
+        PulseGraph x = Graphs.failing();
+        check.fails("step(10)", UnsupportedOperationException.class, () -> x.step(10));
+        check.same("count(0)", x.count(0), PulseGraph.BROKEN);
+        check.same("count(1)", x.count(1), 1);
+        check.same("value(0): of the step before", x.value(0), 0.0);
+        check.same("message(1, 0): of the step before", x.message(1, 0), 1000.0);
+        check.same("about(0, 2): of the step before", x.about(0, 2), 0);
+    }
+
+    @Sentence("One FAILS: UnsupportedOperationException (those before it stay done).")
+    static void failsInTheLastOfN(Check check) {
+        PulseGraph x = Graphs.failing();
+        check.same("step(1)", x.step(1), 1);
+        String before = Graphs.seen(x);
+        check.fails("step(1)", UnsupportedOperationException.class, () -> x.step(1));
+        check.same("count(0)", x.count(0), PulseGraph.BROKEN);
+        check.that("nothing but that it is broken is new",
+                Graphs.seen(x).substring(1).equals(before.substring(1)));
+    }
+
+    @Sentence("One FAILS: UnsupportedOperationException (those before it stay done).")
+    static void doesNotReachTheStepThatFails(Check check) {
+        PulseGraph x = Graphs.of(0, 1, 2, 3);
+        x.edge(0, 1, 700.0);
+        x.edge(1, 2, 700.0);
+        x.edge(2, 3, 700.0);
+        x.start(1, 0, true);
+        check.same("step(2)", x.step(2), 2);
+        check.same("count(0)", x.count(0), PulseGraph.RUNNING);
+        check.fails("step(2)", UnsupportedOperationException.class, () -> x.step(2));
+        check.same("count(1)", x.count(1), 2);
+        check.same("value(2): as before", x.value(2), 1000000.0);
+    }
+
+    @Sentence("Answers how many were done.")
+    static void countsFromOneToTen(Check check) {
+        for (int number = 0; number < 12; number++) {
+            PulseGraph x = Graphs.of(3);
+            x.start(0, number, false);
+            check.same("step(10) of " + (number + 1), x.step(10), number < 10 ? number + 1 : 10);
         }
-        check.same("count(1)", x.count(1), 0);
     }
 }
