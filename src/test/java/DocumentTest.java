@@ -2,36 +2,76 @@ import java.io.IOException;
 import java.lang.reflect.Method;
 import java.nio.file.Files;
 import java.nio.file.Path;
+import java.util.ArrayList;
 import java.util.HashSet;
+import java.util.List;
 import java.util.Map;
 import java.util.Set;
 import java.util.TreeMap;
 import java.util.regex.Matcher;
 import java.util.regex.Pattern;
+import java.util.stream.Stream;
 
 /**
- * Each sentence that a test names stands in the document, and no word of the terms and of the
- * promises is without a test.
+ * Each sentence that a test names stands in the document, and no word of the document is without a
+ * test, but for its part on what is not promised.
  */
 public final class DocumentTest {
     private static final Path DOCUMENT = Path.of("../shared/DOC.md");
+    private static final Path TESTS = Path.of("src/test/java");
     private static final Pattern PROGRAM = Pattern.compile(" (\\d [A-Z]+): (.*)");
-    private static final Class<?>[] TESTS = {
-        FaceTest.class, LifeTest.class, GraphTermsTest.class, StepTermsTest.class, ThrowsTest.class,
-        RankTest.class, NearestTest.class, GreatestTest.class, CoreTest.class,
-        NewObjectTest.class, VertexTest.class, EdgeTest.class, RemoveTest.class, StartTest.class,
-        StepTest.class, SaveTest.class, LoseTest.class, RecoverTest.class, StopTest.class,
-        ValueTest.class, MessageTest.class, AggregateTest.class, AboutTest.class, CountTest.class};
+    private static final Pattern PROMISE = Pattern.compile("`([^`]*)`: (.*)");
+    private static final int PROMISES = 15;
 
-    public static void main(String[] args) throws IOException {
+    private final Check check = new Check();
+    /** The text under each heading in one line, the programs of the terms as parts of their own. */
+    private final Map<String, String> parts = new TreeMap<>();
+    /** The signatures with which the promises begin. */
+    private final List<String> signatures = new ArrayList<>();
+
+    public static void main(String[] args) throws Exception {
         if (!Files.exists(DOCUMENT)) {
             System.out.println("there is no document to compare with");
             return;
         }
-        Check check = new Check();
-        Map<String, String> parts = parts();
+        DocumentTest test = new DocumentTest();
+        test.read();
+        test.compareSignatures();
+        test.compareSentences();
+        test.check.end();
+    }
+
+    private void read() throws IOException {
+        String part = "";
+        for (String line : Files.readAllLines(DOCUMENT)) {
+            Matcher program = PROGRAM.matcher(line);
+            Matcher promise = PROMISE.matcher(line);
+            if (line.startsWith("## ")) {
+                part = line.substring(3);
+            } else if (part.equals("Terms") && program.matches()) {
+                parts.put("Terms: " + program.group(1), program.group(2));
+            } else if (promise.matches()) {
+                signatures.add(promise.group(1));
+                parts.put(part, promise.group(2));
+            } else if (!part.isEmpty() && !line.isBlank() && !line.startsWith("```")) {
+                parts.merge(part, line.strip(), (before, next) -> before + " " + next);
+            }
+        }
+        parts.remove("Not promised");
+    }
+
+    /** FaceTest holds the class to the face, so the promises need only begin with the same. */
+    private void compareSignatures() {
+        check.same("the number of promises", signatures.size(), PROMISES);
+        String face = parts.getOrDefault("The public face", "");
+        for (String signature : signatures) {
+            check.that("the face tells of " + signature, face.contains("public " + signature + ";"));
+        }
+    }
+
+    private void compareSentences() throws IOException, ClassNotFoundException {
         Map<String, String> rest = new TreeMap<>(parts);
-        for (Class<?> tests : TESTS) {
+        for (Class<?> tests : testsOfParts()) {
             String part = Sentences.partOf(tests);
             check.that("the document has the part " + part, parts.containsKey(part));
             for (String sentence : sentences(tests)) {
@@ -41,9 +81,23 @@ public final class DocumentTest {
                 rest.computeIfPresent(part, (name, left) -> left.replace(sentence, ""));
             }
         }
-        rest.forEach((part, left) -> check.that("every word of " + part + " is tested, but for: " + left,
-                left.isBlank() || !(part.startsWith("Promise ") || part.startsWith("Terms"))));
-        check.end();
+        rest.forEach((part, left) ->
+                check.that("every word of " + part + " is tested, but for: " + left, left.isBlank()));
+    }
+
+    private static List<Class<?>> testsOfParts() throws IOException, ClassNotFoundException {
+        List<Class<?>> all = new ArrayList<>();
+        try (Stream<Path> files = Files.list(TESTS)) {
+            for (String name : files.map(file -> file.getFileName().toString()).sorted().toList()) {
+                if (name.endsWith("Test.java")) {
+                    Class<?> tests = Class.forName(name.substring(0, name.length() - ".java".length()));
+                    if (tests.isAnnotationPresent(Part.class)) {
+                        all.add(tests);
+                    }
+                }
+            }
+        }
+        return all;
     }
 
     private static Set<String> sentences(Class<?> tests) {
@@ -52,28 +106,5 @@ public final class DocumentTest {
             all.add(Sentences.sentenceOf(test));
         }
         return all;
-    }
-
-    /** The text under each heading in one line, the programs of the terms as parts of their own. */
-    private static Map<String, String> parts() throws IOException {
-        Map<String, String> parts = new TreeMap<>();
-        String part = "";
-        for (String line : Files.readAllLines(DOCUMENT)) {
-            Matcher program = PROGRAM.matcher(line);
-            if (line.startsWith("## ")) {
-                part = line.substring(3);
-            } else if (part.equals("Terms") && program.matches()) {
-                parts.put("Terms: " + program.group(1), program.group(2));
-            } else if (!line.isBlank() && !line.startsWith("```")) {
-                parts.merge(part, withoutSignature(line.strip()), (before, next) -> before + " " + next);
-            }
-        }
-        return parts;
-    }
-
-    /** A promise begins with the signature of its call, which FaceTest is about. */
-    private static String withoutSignature(String line) {
-        int end = line.indexOf("`: ");
-        return line.startsWith("`") && end >= 0 ? line.substring(end + 3) : line;
     }
 }

@@ -9,22 +9,27 @@ import java.util.TreeSet;
 /** Nothing of the class but what the document tells can be seen from outside. */
 @Part("The public face")
 public final class FaceTest {
-    private static final Set<String> METHODS = Set.of(
-            "int vertex(int, double) throws IllegalArgumentException, IllegalStateException",
-            "int edge(int, int, double) throws IllegalArgumentException, NoSuchElementException, IllegalStateException",
-            "int remove(int) throws IllegalArgumentException, NoSuchElementException, IllegalStateException",
-            "int start(int, int, boolean) throws IllegalArgumentException, IllegalStateException",
-            "int step(int) throws IllegalArgumentException, IllegalStateException, UnsupportedOperationException",
-            "int save() throws IllegalStateException",
-            "int lose(int) throws IllegalArgumentException, IllegalStateException",
-            "int recover() throws IllegalStateException, UnsupportedOperationException",
-            "int stop() throws IllegalStateException",
-            "double value(int) throws IllegalArgumentException, NoSuchElementException",
-            "double message(int, int) throws IllegalArgumentException, NoSuchElementException, "
-                    + "IndexOutOfBoundsException",
-            "double aggregate()",
-            "int about(int, int) throws IllegalArgumentException, NoSuchElementException",
-            "int count(int) throws IllegalArgumentException");
+    private static final String METHODS =
+            "public int vertex(int vertex, double value) throws IllegalArgumentException, IllegalStateException; "
+            + "public int edge(int from, int to, double length) throws IllegalArgumentException, "
+            + "java.util.NoSuchElementException, IllegalStateException; "
+            + "public int remove(int vertex) throws IllegalArgumentException, java.util.NoSuchElementException, "
+            + "IllegalStateException; "
+            + "public int start(int program, int number, boolean combines) throws IllegalArgumentException, "
+            + "IllegalStateException; "
+            + "public int step(int n) throws IllegalArgumentException, IllegalStateException, "
+            + "UnsupportedOperationException; "
+            + "public int save() throws IllegalStateException; "
+            + "public int lose(int worker) throws IllegalArgumentException, IllegalStateException; "
+            + "public int recover() throws IllegalStateException, UnsupportedOperationException; "
+            + "public int stop() throws IllegalStateException; "
+            + "public double value(int vertex) throws IllegalArgumentException, java.util.NoSuchElementException; "
+            + "public double message(int vertex, int i) throws IllegalArgumentException, "
+            + "java.util.NoSuchElementException, IndexOutOfBoundsException; "
+            + "public double aggregate(); "
+            + "public int about(int vertex, int what) throws IllegalArgumentException, "
+            + "java.util.NoSuchElementException; "
+            + "public int count(int what) throws IllegalArgumentException; }";
 
     public static void main(String[] args) throws Exception {
         Sentences.run(FaceTest.class);
@@ -35,9 +40,18 @@ public final class FaceTest {
         int modifiers = PulseGraph.class.getModifiers();
         check.that("the class is public", Modifier.isPublic(modifiers));
         check.that("the class is final", Modifier.isFinal(modifiers));
+        check.that("it extends no other", PulseGraph.class.getSuperclass() == Object.class);
+        check.same("the number of its interfaces", PulseGraph.class.getInterfaces().length, 0);
+        check.that("it has no package", PulseGraph.class.getPackageName().isEmpty());
+    }
+
+    @Sentence("public final class PulseGraph {")
+    static void hidesTheClassesInside(Check check) {
         for (Class<?> inside : PulseGraph.class.getDeclaredClasses()) {
-            check.that(inside + " is static and not public", Modifier.isStatic(inside.getModifiers())
-                    && !Modifier.isPublic(inside.getModifiers()));
+            int modifiers = inside.getModifiers();
+            check.that(inside + " is static", Modifier.isStatic(modifiers));
+            check.that(inside + " is neither public nor protected",
+                    !Modifier.isPublic(modifiers) && !Modifier.isProtected(modifiers));
         }
     }
 
@@ -63,30 +77,52 @@ public final class FaceTest {
         check.same("the number of constructors", made.length, 1);
         check.that("the constructor is public", Modifier.isPublic(made[0].getModifiers()));
         check.same("the number of its parameters", made[0].getParameterCount(), 0);
+        check.same("the number of what it throws", made[0].getExceptionTypes().length, 0);
     }
 
-    @Sentence("public int vertex(int vertex, double value) throws IllegalArgumentException, IllegalStateException;")
-    static void hasThisMethodAndTheOthersAndNoMore(Check check) {
+    @Sentence(METHODS)
+    static void hasTheseMethodsAndNoOther(Check check) {
+        Set<String> due = new TreeSet<>();
+        for (String method : METHODS.substring(0, METHODS.length() - "; }".length()).split("; ")) {
+            due.add(withoutNames(method));
+        }
+        check.same("the number of methods that are due", due.size(), 14);
         Set<String> seen = new TreeSet<>();
         for (Method method : PulseGraph.class.getDeclaredMethods()) {
             if (!Modifier.isPrivate(method.getModifiers())) {
                 seen.add(told(method));
-                check.that(method + " is public", Modifier.isPublic(method.getModifiers()));
             }
         }
-        check.that("the methods are as due: " + seen, seen.equals(new TreeSet<>(METHODS)));
+        check.that("the methods are as due: " + seen, seen.equals(due));
+    }
+
+    @Sentence(METHODS)
+    static void hidesNoMethodUnderTheSameName(Check check) {
+        for (Method method : PulseGraph.class.getDeclaredMethods()) {
+            check.that("the face does not tell of a private " + method.getName(),
+                    !Modifier.isPrivate(method.getModifiers()) || !METHODS.contains(" " + method.getName() + "("));
+        }
+    }
+
+    /** A compiled class does not tell how its parameters are called. */
+    private static String withoutNames(String method) {
+        int open = method.indexOf('(');
+        int shut = method.indexOf(')');
+        String parameters = method.substring(open, shut).replaceAll(" \\w+(?=,|$)", "");
+        return method.substring(0, open) + parameters + method.substring(shut);
     }
 
     private static String told(Method method) {
         StringJoiner parameters = new StringJoiner(", ", "(", ")");
         for (Class<?> type : method.getParameterTypes()) {
-            parameters.add(type.getSimpleName());
+            parameters.add(type.getName());
         }
         StringJoiner thrown = new StringJoiner(", ", " throws ", "");
         thrown.setEmptyValue("");
         for (Class<?> type : method.getExceptionTypes()) {
-            thrown.add(type.getSimpleName());
+            thrown.add(type.getName().replace("java.lang.", ""));
         }
-        return method.getReturnType() + " " + method.getName() + parameters + thrown;
+        return Modifier.toString(method.getModifiers()) + " " + method.getReturnType() + " "
+                + method.getName() + parameters + thrown;
     }
 }
